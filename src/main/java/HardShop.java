@@ -605,7 +605,6 @@ public final class HardShop {
         void begin(Run begun) {
             current = begun;
             lineNow = 0;
-            counted = 0;
             for (int i = 0; i < PLACES; i++) {
                 if (places[i] != null) {
                     places[i].latestRun = begun;

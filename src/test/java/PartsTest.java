@@ -57,6 +57,11 @@ public final class PartsTest {
         check.due("part 12", x.part(1, 1, 1, 1, 0, 0), HardShop.FULL);
         check.due("BAD ahead of FULL", x.part(7, 1, 1, 1, 0, 0), HardShop.BAD);
         check.due("12 parts", x.count(0), 12);
+        for (int none = 12; none < 15; none++) {
+            check.due("no shell of part " + none, x.shell(none, 0, 0), -100000);
+            check.due("no step of part " + none, x.step(none, 200, 1), HardShop.BAD);
+            check.due("no paper of part " + none, x.paper(none, 0, 1), HardShop.BAD);
+        }
         check.due("first shell", x.shell(5, 5, WARMTH), 200);
         check.due("first hot", x.shell(5, 5, HOT), 0);
         check.due("first lamellar", x.shell(5, 5, LAMELLAR), 1000);
@@ -215,6 +220,24 @@ public final class PartsTest {
         x.step(part, -1000, 5);
         check.due("970 HARD", x.shell(part, 0, HARD), 970);
         Bench.bring(x, part, 7290);
+        Bench.bring(x, part, 7450);
+        check.due("15 in all HOT", x.shell(part, 0, HOT), 15);
+        check.due("10 of LAMELLAR", x.shell(part, 0, LAMELLAR), 0);
+        check.due("5 of TOUGH", x.shell(part, 0, TOUGH), 15);
+        check.due("0 of HARD", x.shell(part, 0, HARD), 970);
+        Bench.bring(x, part, 7500);
+        check.due("20 more HOT", x.shell(part, 0, HOT), 35);
+        check.due("15 of TOUGH", x.shell(part, 0, TOUGH), 0);
+        check.due("5 of HARD", x.shell(part, 0, HARD), 965);
+        allThreeAtOnce();
+    }
+
+    private static void allThreeAtOnce() {
+        HardShop x = new HardShop();
+        int part = Bench.hotPart(x, 10, 20);
+        x.step(part, 0, 2);
+        x.step(part, -1000, 5);
+        Bench.bring(x, part, 7290);
         Bench.bring(x, part, 7700);
         check.due("40 of all three HOT", x.shell(part, 0, HOT), 40);
         check.due("10 of LAMELLAR", x.shell(part, 0, LAMELLAR), 0);
@@ -304,6 +327,12 @@ public final class PartsTest {
         int soft = Bench.quickPart(x, 1, 0, 0);
         x.step(soft, 4000, 20);
         check.due("without HARD it is not DRAWN", x.shell(soft, 0, DRAWN), 0);
+        Bench.bring(x, soft, 7310);
+        Bench.bring(x, soft, 400);
+        check.due("1 HARD", x.shell(soft, 0, HARD), 1);
+        check.due("not DRAWN while it was HOT", x.shell(soft, 0, DRAWN), 0);
+        Bench.bring(x, soft, 1600);
+        check.due("1 HARD is enough", x.shell(soft, 0, DRAWN), 1);
     }
 
     private static void drawingEdges() {
