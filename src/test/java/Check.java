@@ -2,12 +2,18 @@
 final class Check {
     private int wrong;
     private int seen;
+    private String sentence = "";
+
+    /** The sentence of the document that the answers below are due by; it is told with each that is wrong. */
+    void sentence(String of) {
+        sentence = of + " - ";
+    }
 
     void due(String call, long got, long want) {
         seen++;
         if (got != want) {
             wrong++;
-            System.out.println(call + " answered " + got + ", due is " + want);
+            System.out.println(sentence + call + " answered " + got + ", due is " + want);
         }
     }
 
