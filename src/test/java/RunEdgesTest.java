@@ -27,6 +27,7 @@ public final class RunEdgesTest {
         soakAtItsSlack();
         soakBehindItsSteps();
         soakByDrift();
+        soakByInnermost();
         soakByAllLiveOnes();
         soakNotByError();
         stepsBesideGasAndError();
@@ -201,6 +202,12 @@ public final class RunEdgesTest {
         long before = x.digest();
         check.due("none RUNS", x.tick(1), 0);
         check.due("which changes nothing", x.digest(), before);
+        int warm = Bench.quickPart(x, 1, 0, 0);
+        Bench.bring(x, warm, 900);
+        x.load(1, 0, warm);
+        x.run(0);
+        check.due("another RUNS", x.tick(1), 0);
+        check.due("a part in one that does not stays warm", x.shell(warm, 0, 0), 900);
     }
 
     private static void ticksOfThree() {
@@ -401,6 +408,23 @@ public final class RunEdgesTest {
             x.tick(1);
             check.due("a " + of[0] + ", drift " + of[1], x.about(0, COUNTED), of[2]);
         }
+    }
+
+    private static void soakByInnermost() {
+        check.sentence("telling the WARMTH of its PART's innermost SHELL");
+        HardShop x = new HardShop();
+        x.part(3, 1, 1, 300, 0, 0);
+        x.load(0, 0, 0);
+        x.line(0, SOAK, 301, 1);
+        x.line(0, SOAK, 300, 1);
+        x.run(0);
+        x.tick(40);
+        check.that("the outermost is warm enough", x.shell(0, 0, 0) >= 201);
+        check.due("the innermost is not", x.shell(0, 2, 0), 200);
+        check.due("none counts", x.about(0, LINE), 0);
+        x.probe(0, 0, true, 1);
+        x.tick(1);
+        check.due("with a drift of 1 it counts", x.about(0, LINE), 1);
     }
 
     private static void soakByAllLiveOnes() {

@@ -7,6 +7,7 @@ public final class SteelEdgesTest {
         whatComesIsCut();
         whatGoesOnIsCut();
         fromWarmthsAsTheyAre();
+        shellByShell();
         hotAbove7300();
         lamellarThenToughThenHard();
         upToAllOfThem();
@@ -23,6 +24,7 @@ public final class SteelEdgesTest {
         drawnIfHardAboveNone();
         drawnByHardAsItIsNow();
         drawnNoneIfHotAbove500();
+        hardnessOfOneKind();
         hardnessIsCut();
         hardnessByDrawnIsCut();
         hardnessWornByFourHundredAtMost();
@@ -115,6 +117,27 @@ public final class SteelEdgesTest {
         check.due("4400 + 1740 - 990", x.shell(0, 0, WARMTH), 5150);
         check.due("1100 + 990 - 270", x.shell(0, 1, WARMTH), 1820);
         check.due("200 + 270", x.shell(0, 2, WARMTH), 470);
+    }
+
+    private static void shellByShell() {
+        check.sentence("Then, SHELL by SHELL, with its WARMTH w now");
+        for (int n = 1; n <= 6; n++) {
+            HardShop x = new HardShop();
+            int part = x.part(n, 1, 300, 300, 0, 0);
+            x.step(part, 12000, 200);
+            for (int i = 0; i < n; i++) {
+                check.due("HOT of shell " + i + " of " + n, x.shell(part, i, HOT), 1000);
+            }
+            x.step(part, -1000, 200);
+            for (int i = 0; i < n; i++) {
+                check.due("HARD of shell " + i + " of " + n, x.shell(part, i, HARD), 1000);
+            }
+        }
+        HardShop x = new HardShop();
+        int part = x.part(2, 1, 1, 300, 0, 0);
+        x.step(part, 12000, 9);
+        check.that("the outer one is HOT by its own warmth", x.shell(part, 0, HOT) > 0);
+        check.due("the inner one is not", x.shell(part, 1, HOT), 0);
     }
 
     private static void hotAbove7300() {
@@ -358,6 +381,22 @@ public final class SteelEdgesTest {
         stepTo(x, half, 7310);
         shares("501 HOT again", x, half, 501, 0, 0, 499);
         check.due("501 HOT again: DRAWN", x.shell(half, 0, DRAWN), 0);
+    }
+
+    private static void hardnessOfOneKind() {
+        check.sentence("HARDNESS: 200 HOT, 250 LAMELLAR, 450 TOUGH, 800 HARD");
+        HardShop x = new HardShop();
+        int lamellar = Bench.quickPart(x, 1, 0, 0);
+        check.due("all LAMELLAR", x.shell(lamellar, 0, HARDNESS), 250);
+        int tough = Bench.hotPart(x, 0, 200);
+        check.due("all HOT", x.shell(tough, 0, HARDNESS), 200);
+        Bench.bring(x, tough, 4000);
+        x.step(tough, 4000, 5);
+        shares("all TOUGH", x, tough, 0, 0, 1000, 0);
+        check.due("all TOUGH", x.shell(tough, 0, HARDNESS), 450);
+        int hard = hardPart(x);
+        check.that("hardly DRAWN", x.shell(hard, 0, DRAWN) < 50);
+        check.due("all HARD", x.shell(hard, 0, HARDNESS), 800);
     }
 
     private static void hardnessIsCut() {
